@@ -1,9 +1,10 @@
 /**
- * Runs of 512 mixed calls on VaultHands and on Model side by side: each answer is compared, and, behind
- * each call, all that is told. The calls come from a fixed row of numbers, so that each run is the same.
+ * Runs of mixed calls on VaultHands and on Model side by side: each answer is compared, and, behind the
+ * last one, all that is told, as far as the 512 calls of an object go. The calls come from a fixed row of
+ * numbers, so that each run is the same.
  */
 public final class ModelTest {
-    private static final int RUNS = 1500, CALLS = 512;
+    private static final int RUNS = 6000, CALLS = 512, MOST_MIXED = 400;
     private static final String[] NAMES = {
         "key", "vault", "hang", "link", "put", "take", "move", "split", "swap", "polish", "rounds", "sweep", "walk",
         "order", "run", "sum", "hung", "wear", "entries", "entry", "clear", "alarms", "orders"};
@@ -14,6 +15,7 @@ public final class ModelTest {
         Integer.MAX_VALUE};
 
     private static long state;
+    private static int calls;
 
     private static int next(int bound) {
         state = state * 6364136223846793005L + 1442695040888963407L;
@@ -23,6 +25,7 @@ public final class ModelTest {
     public static void main(String[] args) {
         for (int run = 0; run < RUNS; run++) {
             state = run;
+            calls = 0;
             mixedRun(run);
         }
         Due.end();
@@ -43,10 +46,11 @@ public final class ModelTest {
             both(run, x, m, "hang", v, 1, next(8) == 0 ? -1 : next(size), 0);
             both(run, x, m, "link", v, next(size), 0, 0);
         }
-        for (int i = 5 * size; i < CALLS; i++) {
+        int mixed = 1 + next(MOST_MIXED);
+        for (int i = 0; i < mixed; i++) {
             mixedCall(run, x, m, size, limit, keepsBook);
-            told(run, x, m);
         }
+        told(run, x, m);
     }
 
     private static void mixedCall(int run, VaultHands x, Model m, int size, int limit, boolean keepsBook) {
@@ -94,24 +98,33 @@ public final class ModelTest {
     }
 
     private static void both(int run, VaultHands x, Model m, String name, int a, int b, int c, int d) {
-        String what = "run " + run + ": " + name + "(" + a + ", " + b + ", " + c + ", " + d + ")";
-        Due.is(what, call(x, name, a, b, c, d), m.call(name, a, b, c, d));
+        if (calls == CALLS) {
+            return;
+        }
+        calls++;
+        int got = call(x, name, a, b, c, d);
+        int due = m.call(name, a, b, c, d);
+        if (got != due) {
+            Due.is("run " + run + ", call " + calls + ": " + name + "(" + a + ", " + b + ", " + c + ", " + d + ")", got, due);
+        }
     }
 
-    /** Looks are free of the 512 calls here: nothing that is told changes anything. */
+    /** The latest of what is kept first: what is older was likelier looked at in a shorter run. */
     private static void told(int run, VaultHands x, Model m) {
         String[] counts = {"entries", "alarms", "orders"};
         for (String name : counts) {
             both(run, x, m, name, 0, 0, 0, 0);
         }
-        for (int v = 0; v < 12; v++) {
+        for (int v = 0; v <= 12; v++) {
             both(run, x, m, "sum", v, 0, 0, 0);
-            both(run, x, m, "hung", v, next(2), 0, 0);
+            both(run, x, m, "hung", v, 0, 0, 0);
+            both(run, x, m, "hung", v, 1, 0, 0);
         }
-        both(run, x, m, "wear", next(40), 0, 0, 0);
-        int last = m.call("entries", 0, 0, 0, 0);
-        for (int i = Math.max(0, last - 130); i <= last; i++) {
-            Due.is("run " + run + ": entry(" + i + ")", x.entry(i), m.call("entry", i, 0, 0, 0));
+        for (int k = 0; k <= 12; k++) {
+            both(run, x, m, "wear", k, 0, 0, 0);
+        }
+        for (int i = Math.min(400, m.call("entries", 0, 0, 0, 0)); i >= 0; i--) {
+            both(run, x, m, "entry", i, 0, 0, 0);
         }
     }
 
