@@ -12,6 +12,14 @@ final class Due {
         }
     }
 
+    /** For what is no number: it prints what is so otherwise. */
+    static void holds(String otherwise, boolean held) {
+        if (!held) {
+            wrong++;
+            System.out.println(otherwise);
+        }
+    }
+
     /** The whole BOOK since the latest clear(); it is cleared then. */
     static void book(String what, VaultHands x, int... due) {
         is(what + ": entries()", x.entries(), due.length);
